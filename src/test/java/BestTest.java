@@ -229,6 +229,16 @@ public final class BestTest {
         DUE.is("rule(101)", x.rule(101), Due.BEYOND);
         DUE.is("BEYOND told", x.status(0), 2);
         DUE.is("DROUGHT stays", x.now(3), 0);
+
+        // Only above 999 one is turned off on the first day, so that of eight one less stoops on the second.
+        NamedFountains y = Due.dryTown(999);
+        for (int i = 0; i < 8; i++) {
+            y.fountain(Due.MAYOR);
+            y.set(i, 1, 40);
+        }
+        DUE.is("1000 is tried", y.rule(2), 1000);
+        y.water(0, 1000);
+        DUE.is("1050 isn't", y.rule(2), 0);
     }
 
     private static void nothingChanges() {

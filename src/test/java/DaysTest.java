@@ -223,6 +223,9 @@ public final class DaysTest {
             DUE.is("then(0, " + n + ", 2)", x.then(0, n, 2), stooped[n]);
         }
         DUE.is("then(1, 3, 1)", x.then(1, 3, 1), 24);
+        x.set(0, 4, 7);
+        DUE.is("then(0, 3, 0) of one that stooped before", x.then(0, 3, 0), 1);
+        DUE.is("then(0, 3, 2) of one that stooped before", x.then(0, 3, 2), 8);
         DUE.is("on(400, 2)", x.on(400, 2), 3);
         DUE.is("then(0, 400, 1)", x.then(0, 400, 1), 0);
         int[][] wrong = {{-1, 0}, {401, 0}, {0, -1}, {0, 3}, {Integer.MAX_VALUE, 0}, {Integer.MIN_VALUE, 0}};

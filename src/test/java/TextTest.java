@@ -144,6 +144,12 @@ public final class TextTest {
 
     private static void faults() {
         text("jets", -1);
+        text("jetz", -1);
+        text("ajet", -1);
+        text("bet", -1);
+        text("jot", -1);
+        text("jeb", -1);
+        text("toy", -1);
         text("je", -1);
         text("5", -1);
         text(";", -1);

@@ -117,6 +117,11 @@ public final class TownTest {
         DUE.is("now(6)", x.now(6), 1);
         DUE.is("now(8) in frost", x.now(8), 13);
         DUE.is("now(9) in frost: halved one by one", x.now(9), 2);
+        x.set(0, 2, 0);
+        DUE.is("now(7): 2 is off", x.now(7), 4);
+        DUE.is("now(8): with a jet of 10", x.now(8), 23);
+        DUE.is("now(9): with half a jet of 10", x.now(9), 7);
+        x.set(0, 2, 1);
         DUE.is("now(-1)", x.now(-1), Due.BEYOND);
         DUE.is("now(10)", x.now(10), Due.BEYOND);
         DUE.is("now(MAX)", x.now(Integer.MAX_VALUE), Due.BEYOND);
