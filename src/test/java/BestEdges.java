@@ -108,6 +108,17 @@ final class BestEdges {
         NamedFountains off = Edge.jets(0, 10);
         off.set(0, 2, 1);
         edge.at("one that is OFF isn't turned off", off.high(0, 100), 40);
+        NamedFountains often = stoopedBefore();
+        edge.within("what another stooped before doesn't count", often.high(1, 1), 15);
+        edge.within("what it stooped before itself doesn't count", often.high(0, 1), 25);
+    }
+
+    /** Two jets of 10 with 25 in the tank, who stooped seven times and three times before. */
+    private static NamedFountains stoopedBefore() {
+        NamedFountains x = Edge.jets(25, 10, 10);
+        x.set(0, 4, 7);
+        x.set(1, 4, 3);
+        return x;
     }
 
     /** Two jets of 10 and of a height in a drought of one day, the second LOVED so much. */
@@ -135,6 +146,10 @@ final class BestEdges {
         NamedFountains off = Edge.jets(0, 10);
         off.set(0, 2, 1);
         edge.at("one that is OFF isn't turned off", off.loved(0, 100), 0);
+        NamedFountains often = stoopedBefore();
+        often.water(1, 26);
+        edge.within("what another stooped before doesn't count", often.loved(1, 1), 20);
+        edge.within("what it stooped before itself doesn't count", often.loved(0, 1), 21);
         for (int n : NOT_DAYS) {
             edge.beyond("loved(0, " + n + ")", Edge::rich, x -> x.loved(0, n), Due.BEYOND);
         }
@@ -192,7 +207,16 @@ final class BestEdges {
         edge.at("a mayor as the other: the least is turned off", two.kind(0), Due.BASIN);
         two.set(1, 3, 39);
         edge.within("a mayor behind the other", two.kind(0), Due.MAYOR);
-        edge.at("the eighth", Edge.many(8).kind(7) >= 0 ? 1 : 0, 1);
+        NamedFountains second = Edge.jets(800, 10, 10);
+        second.set(0, 2, 1);
+        edge.at("the second, where the first is OFF", second.kind(1), Due.BASIN);
+        second.water(0, 799);
+        edge.within("the second, with 1 less", second.kind(1), Due.BOY);
+        NamedFountains eighth = Edge.jets(800, 40, 40, 40, 40, 40, 40, 40, 10);
+        for (int i = 0; i < 7; i++) {
+            eighth.set(i, 2, 1);
+        }
+        edge.at("the eighth", eighth.kind(7), Due.BASIN);
         edge.beyond("a ninth", () -> Edge.many(8), x -> x.kind(8), Due.BEYOND);
         for (int fountain : NOBODY) {
             edge.beyond("of " + fountain, Edge::rich, x -> x.kind(fountain), Due.BEYOND);

@@ -86,6 +86,9 @@ final class DayEdges {
         edge.within("another the next day", x.on(2, 2), 7);
         edge.beyond("the one that was OFF didn't stoop", x.then(1, 3, 2), 0);
         edge.within("the others did once", x.then(0, 3, 2) + x.then(2, 3, 2), 2);
+        NamedFountains between = Edge.jets(99, 5, 20, 10);
+        between.water(1, 100);
+        edge.within("the greatest stands between others", between.on(1, 2), 2);
         // 1 is turned off by the committee, and then 0 finds less than its 40: both on one day.
         NamedFountains y = Edge.jets(30, 40, 40);
         y.water(1, 31);
@@ -145,6 +148,12 @@ final class DayEdges {
         edge.beyond("none is left", x.on(4, 2), 0);
         x.set(1, 3, 22);
         edge.within("one more LOVED", x.on(1, 2), 12);
+        NamedFountains y = Edge.jets(5000, 20, 5, 10);
+        y.water(2, 100);
+        for (int i = 0; i < 3; i++) {
+            y.set(i, 2, 1);
+        }
+        edge.within("the least stands between others", y.on(1, 2), 5);
     }
 
     private void enoughWater() {

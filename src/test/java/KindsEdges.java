@@ -182,6 +182,10 @@ final class KindsEdges {
         edge.at("it is", Edge.one(Due.BASIN, 10, 0, 20, 1).of(0, GAINS), 101);
         edge.within("OFF, it isn't", gainsOf(Due.BASIN, 10, 1), 100);
         edge.beyond("OFF, it is", Edge.one(Due.BASIN, 10, 1, 20, 1).of(0, GAINS), 99);
+        edge.within("above 30 feet, unlike a mayor", gainsOf(Due.BASIN, 31, 0), 102);
+        edge.within("above 30 feet, OFF", gainsOf(Due.BASIN, 31, 1), 100);
+        edge.at("above 30 feet, in frost", Edge.one(Due.BASIN, 31, 0, 20, 1).of(0, GAINS), 101);
+        edge.beyond("above 30 feet, OFF, in frost", Edge.one(Due.BASIN, 31, 1, 20, 1).of(0, GAINS), 99);
         edge.names(TERMS, "BISHOP: as MAYOR, less 1.");
         edge.within("29", gainsOf(Due.BISHOP, 29, 0), 100);
         edge.at("30", gainsOf(Due.BISHOP, 30, 0), 100);
@@ -191,6 +195,8 @@ final class KindsEdges {
         edge.names(TERMS, "BOY: as BASIN, but 0 at least.");
         edge.within("going, not in frost", gainsOf(Due.BOY, 10, 0), 102);
         edge.within("going, in frost", Edge.one(Due.BOY, 10, 0, 20, 1).of(0, GAINS), 101);
+        edge.within("going, above 30 feet", gainsOf(Due.BOY, 31, 0), 102);
+        edge.within("going, above 30 feet, in frost", Edge.one(Due.BOY, 31, 0, 20, 1).of(0, GAINS), 101);
         edge.at("OFF, not in frost", gainsOf(Due.BOY, 10, 1), 100);
         edge.beyond("OFF, in frost", Edge.one(Due.BOY, 10, 1, 20, 1).of(0, GAINS), 100);
     }

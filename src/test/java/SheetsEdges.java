@@ -475,6 +475,12 @@ final class SheetsEdges {
         small.water(0, 127);
         small.book(0);
         edge.at("127 in 8 bits is the same", small.read(0, 0), 240);
+        // Beside a jet of 3, by 20: a jet of 20, a mayor of 10, a wife of 40.
+        NamedFountains second = Edge.jets(500, 3, 10);
+        second.sheet(0, 16, 2);
+        second.write(0, 0, 500);
+        second.write(0, 1, 477);
+        edge.within("of the second", second.read(0, 1), 3);
         edge.asks("it only asks", Edge::rich, y -> y.read(0, 0), 0);
     }
 

@@ -273,6 +273,45 @@ final class TextEdges {
         edge.at("a sign for a number of rain", told("rain 7;5"), -7);
         edge.at("a word of 120 bytes", told(times(120, "a")), -1);
         edge.at("a fault at the last of 120 bytes", told(times(19, "cold1;") + "cold1x"), -120);
+        otherWords();
+        otherThanNumbers();
+    }
+
+    /** Every word of the text with one letter changed, left out or put to it is another one, and stands nowhere. */
+    private void otherWords() {
+        String[] before = {"", "", "", "", "", "", "", "", "", "", "jet ", "jet ", "jet "};
+        String[] words = {"jet", "mayor", "wife", "basin", "bishop", "boy", "rain", "cold", "mild", "tank", "high", "loved",
+            "off"};
+        String[] after = {"", "", "", "", "", "", " 1 2", " 1", " 1", " 1", " 1", " 1", ""};
+        for (int w = 0; w < words.length; w++) {
+            String word = words[w];
+            int fault = -1 - before[w].length();
+            edge.within(word, told(before[w] + word + after[w]), 1);
+            for (int i = 0; i < word.length(); i++) {
+                String ahead = before[w] + word.substring(0, i);
+                String behind = word.substring(i + 1) + after[w];
+                edge.at(word + " with another letter at " + i, told(ahead + "q" + behind), fault);
+                edge.at(word + " without its letter at " + i, told(ahead + behind), fault);
+                edge.at(word + " with a letter more at " + i, told(ahead + "q" + word.charAt(i) + behind), fault);
+            }
+            edge.at(word + " with a letter more behind", told(before[w] + word + "q" + after[w]), fault);
+        }
+    }
+
+    /** Where a number must stand, nothing else may, whatever number stood ahead of it. */
+    private void otherThanNumbers() {
+        String[] wanting = {"jet high", "jet loved", "jet high 5 loved", "rain", "rain 7", "cold", "mild", "tank"};
+        String[] others = {"off", "dog", "high", ";", "!", "-1"};
+        String[] ahead = {"", "tank 5;", "tank 0;"};
+        for (String text : wanting) {
+            edge.within(text + " 5", told(text + " 5" + (text.equals("rain") ? " 5" : "")), 1);
+            for (String other : others) {
+                for (String item : ahead) {
+                    String whole = item + text + " " + other;
+                    edge.at("\"" + whole + "\"", told(whole), -1 - item.length() - text.length() - 1);
+                }
+            }
+        }
     }
 
     private void faultOfBytes() {

@@ -281,6 +281,14 @@ final class TownEdges {
         edge.plain("Promise 9", "One as one of a kind: LOVED.");
         edge.is("0", Edge.one(Due.BOY, 10, 0, 0, 0).as(0, Due.JET), 0);
         edge.is("99", Edge.one(Due.BOY, 10, 0, 99, 0).as(0, Due.BASIN), 99);
+        NamedFountains six = Edge.many(6);
+        for (int kind = 0; kind < 6; kind++) {
+            six.turn(kind, kind);
+            six.set(kind, 3, 30 + kind);
+        }
+        for (int kind = 0; kind < 6; kind++) {
+            edge.is("of six, " + kind + " as what it is", six.as(kind, kind), 30 + kind);
+        }
         edge.names("Promise 9", "BEYOND: no such one, kind.");
         edge.at("the first", Edge.many(8).as(0, 0), 20);
         edge.at("the eighth", Edge.many(8).as(7, 0), 20);
@@ -318,6 +326,8 @@ final class TownEdges {
         edge.within("the second is greater", Edge.jets(0, 10, 11).next(), 1);
         edge.beyond("the first is greater", Edge.jets(0, 11, 10).next(), 0);
         edge.within("the last of eight", Edge.jets(0, 10, 10, 10, 10, 10, 10, 10, 11).next(), 7);
+        edge.within("the greatest stands between others", Edge.jets(0, 5, 20, 10).next(), 1);
+        edge.at("the least of several stands between others", Edge.jets(0, 5, 20, 10, 20, 15).next(), 1);
         NamedFountains x = Edge.jets(0, 12, 11, 10);
         x.set(0, 2, 1);
         edge.within("the greatest is OFF", x.next(), 1);
