@@ -366,7 +366,7 @@ public final class NamedFountains {
             return found(BEYOND);
         }
         int best = 0;
-        int least = Integer.MAX_VALUE;
+        int least = MOST_STOOPED * MOST_FOUNTAINS + 1;
         for (int drought = 0; drought <= MOST_DROUGHT_TRIED; drought += DROUGHT_STEP) {
             trial.become(here);
             trial.drought = drought;
@@ -805,10 +805,11 @@ public final class NamedFountains {
         /** The first of those that go to be turned off, or NOBODY. */
         int givesWayMost() {
             int first = NOBODY;
-            int most = Integer.MIN_VALUE;
+            int most = 0;
             for (int i = 0; i < size; i++) {
-                if (row[i].off == 0 && row[i].givesWay() > most) {
-                    most = row[i].givesWay();
+                int way = row[i].givesWay();
+                if (row[i].off == 0 && (first == NOBODY || way > most)) {
+                    most = way;
                     first = i;
                 }
             }
@@ -818,10 +819,11 @@ public final class NamedFountains {
         /** The first of those that are off to be turned on, or NOBODY. */
         private int givesWayLeast() {
             int first = NOBODY;
-            int least = Integer.MAX_VALUE;
+            int least = 0;
             for (int i = 0; i < size; i++) {
-                if (row[i].off == 1 && row[i].givesWay() < least) {
-                    least = row[i].givesWay();
+                int way = row[i].givesWay();
+                if (row[i].off == 1 && (first == NOBODY || way < least)) {
+                    least = way;
                     first = i;
                 }
             }

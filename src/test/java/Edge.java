@@ -8,18 +8,20 @@ import java.util.function.ToLongFunction;
  */
 final class Edge {
     private static final int FINDINGS = 7;
+    /** "What it is", "Terms", 37 promises and "Not promised". */
+    private static final int PARTS = 40;
 
     private final Due due = new Due("EdgesTest");
     private final Document document;
     private String part = "";
     private String words = "";
     private boolean bounded = false;
+    private boolean asksSomething = true;
     private int at = 0;
     private int within = 0;
     private int beyond = 0;
     private int told = 0;
 
-    /** Without a document (null) the sentences are tried and not looked up. */
     Edge(Document document) {
         this.document = document;
     }
@@ -28,12 +30,21 @@ final class Edge {
     void names(String newPart, String newWords) {
         begin(newPart, newWords);
         bounded = true;
+        asksSomething = true;
     }
 
     /** What is tried from here on belongs to this sentence, which names no boundary. */
     void plain(String newPart, String newWords) {
         begin(newPart, newWords);
         bounded = false;
+        asksSomething = true;
+    }
+
+    /** This sentence leaves something free, so that there is nothing to try. */
+    void free(String newPart, String newWords) {
+        begin(newPart, newWords);
+        bounded = false;
+        asksSomething = false;
     }
 
     private void begin(String newPart, String newWords) {
@@ -44,16 +55,16 @@ final class Edge {
         within = 0;
         beyond = 0;
         told = 0;
-        if (document != null) {
-            due.is(part + " says \"" + words + "\"", document.name(part, words) ? 1 : 0, 1);
-        }
+        due.is(part + " says \"" + words + "\"", document.name(part, words) ? 1 : 0, 1);
     }
 
     private void finish() {
         if (part.isEmpty()) {
             return;
         }
-        tell("something is tried", told > 0 ? 1 : 0, 1);
+        if (asksSomething) {
+            tell("something is tried", told > 0 ? 1 : 0, 1);
+        }
         if (bounded) {
             tell("it is tried at the boundary", at > 0 ? 1 : 0, 1);
             tell("it is tried within the boundary", within > 0 ? 1 : 0, 1);
@@ -130,14 +141,12 @@ final class Edge {
 
     void end() {
         finish();
-        if (document != null) {
-            List<String> left = document.unnamed();
-            for (String words : left) {
-                System.out.println("EdgesTest: no test names " + words);
-            }
-            due.is("sentences that no test names", left.size(), 0);
-            due.is("parts of the document", document.parts(), 38);
+        List<String> left = document.unnamed();
+        for (String unnamed : left) {
+            System.out.println("EdgesTest: no test names " + unnamed);
         }
+        due.is("sentences that no test names", left.size(), 0);
+        due.is("parts of the document", document.parts(), PARTS);
         due.end();
     }
 

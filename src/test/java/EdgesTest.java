@@ -1,13 +1,8 @@
-import java.nio.file.Path;
-
 /** Every sentence of the document that names a boundary, tried at it, within it and beyond it. */
 public final class EdgesTest {
     public static void main(String[] args) throws Exception {
-        String path = System.getenv("NAMED_FOUNTAINS_DOCUMENT");
-        if (path == null) {
-            System.out.println("EdgesTest: no NAMED_FOUNTAINS_DOCUMENT, so the sentences are not looked up");
-        }
-        Edge edge = new Edge(path == null ? null : new Document(Path.of(path)));
+        Edge edge = new Edge(new Document(Project.document()));
+        new StoryEdges(edge).run();
         new TermsEdges(edge).run();
         new KindsEdges(edge).run();
         new DayEdges(edge).run();

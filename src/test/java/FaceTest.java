@@ -3,37 +3,32 @@ import java.lang.reflect.Field;
 import java.lang.reflect.Method;
 import java.lang.reflect.Modifier;
 import java.nio.file.Files;
-import java.nio.file.Path;
 import java.util.ArrayList;
 import java.util.Collections;
 import java.util.List;
 import java.util.regex.Matcher;
 import java.util.regex.Pattern;
 
-/** The public face of the document, and of LANGUAGE.md what can be seen without reading. */
+/** "The public face", as the document itself writes it down, and what its interface says ahead of the calls. */
 public final class FaceTest {
     private static final Due DUE = new Due("FaceTest");
-    private static final String[] FACE = {
-        "int water(int,int)", "int week(int,int,int)", "int now(int)", "int fountain(int)", "int of(int,int)",
-        "int set(int,int,int)", "int turn(int,int)", "int as(int,int)", "int next()", "int days(int)",
-        "int on(int,int)", "int then(int,int,int)", "int falls(int)", "int off(int)", "int quiet()",
-        "int best(int)", "int high(int,int)", "int loved(int,int)", "int kind(int)", "int rain(int)",
-        "int enough(int)", "int rule(int)", "int feed(int,int)", "int wipe()", "int town()",
-        "int sheet(int,int,int)", "long write(int,int,long)", "int copy(int,int,int,int,int)", "int lays(int)",
-        "int book(int)", "int read(int,int)", "int image()", "int undo()", "int tear()", "int count(int)",
-        "int status(int)"};
-    private static final String[] BARRED = {"throw", "throws", "try", "catch", "finally", "synchronized", "assert",
-        "new Object", "->", "::", "Exact", "protected", "static \\{", "System\\.(?!arraycopy)", "Thread", "Random"};
+    private static final int CALLS = 36;
 
     public static void main(String[] args) throws Exception {
-        face();
-        nothingElse();
-        source();
+        List<String> face = Project.face();
+        DUE.is("calls of the document's face", face.size(), CALLS);
+        calls(face);
+        constructor();
+        nothingElse(face);
+        headings(face);
         DUE.end();
     }
 
-    private static void face() {
-        List<String> due = new ArrayList<>(List.of(FACE));
+    private static void calls(List<String> face) {
+        List<String> due = new ArrayList<>();
+        for (String call : face) {
+            due.add(call.replaceAll("(int|long) \\w+(?=[,)])", "$1").replace(" ,", ",").replace(", ", ","));
+        }
         List<String> is = new ArrayList<>();
         for (Method method : NamedFountains.class.getDeclaredMethods()) {
             if (!Modifier.isPrivate(method.getModifiers())) {
@@ -44,11 +39,6 @@ public final class FaceTest {
         Collections.sort(due);
         Collections.sort(is);
         DUE.is("the face is " + is + ", due " + due, is.equals(due) ? 1 : 0, 1);
-        Constructor<?>[] made = NamedFountains.class.getDeclaredConstructors();
-        DUE.is("constructors", made.length, 1);
-        DUE.is("constructor's parameters", made[0].getParameterCount(), 0);
-        DUE.is("constructor is public", made[0].getModifiers(), Modifier.PUBLIC);
-        DUE.is("class", NamedFountains.class.getModifiers(), Modifier.PUBLIC | Modifier.FINAL);
     }
 
     private static String described(Method method) {
@@ -59,17 +49,23 @@ public final class FaceTest {
         return text.append(')').toString();
     }
 
-    private static void nothingElse() {
-        List<Class<?>> classes = new ArrayList<>(List.of(NamedFountains.class.getDeclaredClasses()));
-        DUE.is("at most twelve classes", classes.size() <= 12 ? 1 : 0, 1);
+    private static void constructor() {
+        Constructor<?>[] made = NamedFountains.class.getDeclaredConstructors();
+        DUE.is("constructors", made.length, 1);
+        DUE.is("constructor's parameters", made[0].getParameterCount(), 0);
+        DUE.is("constructor is public", made[0].getModifiers(), Modifier.PUBLIC);
+        DUE.is("class", NamedFountains.class.getModifiers(), Modifier.PUBLIC | Modifier.FINAL);
+    }
+
+    private static void nothingElse(List<String> face) {
         for (Field field : NamedFountains.class.getDeclaredFields()) {
             DUE.is(field.getName() + " is private", Modifier.isPrivate(field.getModifiers()) ? 1 : 0, 1);
         }
         List<String> names = new ArrayList<>();
-        for (String method : FACE) {
-            names.add(method.substring(method.indexOf(' ') + 1, method.indexOf('(')));
+        for (String call : face) {
+            names.add(Project.nameOf(call));
         }
-        for (Class<?> inside : classes) {
+        for (Class<?> inside : NamedFountains.class.getDeclaredClasses()) {
             DUE.is(inside + " is static", Modifier.isStatic(inside.getModifiers()) ? 1 : 0, 1);
             DUE.is(inside + " is not public", Modifier.isPublic(inside.getModifiers()) ? 1 : 0, 0);
             for (Method method : inside.getDeclaredMethods()) {
@@ -82,19 +78,24 @@ public final class FaceTest {
         }
     }
 
-    /** .ci/run names the source; a run by hand without it asks nothing here. */
-    private static void source() throws Exception {
-        String path = System.getenv("NAMED_FOUNTAINS_SOURCE");
-        if (path == null) {
-            System.out.println("FaceTest: no NAMED_FOUNTAINS_SOURCE, so the source is not looked at");
-            return;
+    /** "Ahead of the calls .. the interface says: ---- ..": the class says so ahead of the same calls. */
+    private static void headings(List<String> face) throws Exception {
+        String source = Files.readString(Project.source());
+        Matcher line = Pattern.compile("Ahead of the calls (.*?) the interface says: (---- .*?)\\.\n")
+            .matcher(Files.readString(Project.document()));
+        int named = 0;
+        while (line.find()) {
+            int from = source.indexOf("// " + line.group(2) + "\n");
+            DUE.is("the class says " + line.group(2), from >= 0 ? 1 : 0, 1);
+            int to = source.indexOf("// ----", from + 1);
+            String under = from < 0 ? "" : source.substring(from, to < 0 ? source.length() : to);
+            Matcher call = Pattern.compile("`(\\w+)`").matcher(line.group(1));
+            while (call.find()) {
+                named++;
+                boolean stands = Pattern.compile("public (int|long) " + call.group(1) + "\\(").matcher(under).find();
+                DUE.is(call.group(1) + " stands under " + line.group(2), stands ? 1 : 0, 1);
+            }
         }
-        String code = Files.readString(Path.of(path)).replaceAll("(?s)/\\*.*?\\*/", "").replaceAll("//[^\n]*", "");
-        for (String barred : BARRED) {
-            String edge = Character.isLetter(barred.charAt(0)) && !barred.equals("Exact") ? "\\b" : "";
-            Matcher found = Pattern.compile(edge + barred + (edge.isEmpty() || barred.endsWith(")") ? "" : edge)).matcher(code);
-            DUE.is("'" + barred + "' in the source", found.find() ? 1 : 0, 0);
-        }
-        DUE.is("signs are 1 to 127", code.chars().filter(c -> c < 1 || c > 127).count(), 0);
+        DUE.is("calls that stand under a heading", named, face.size());
     }
 }
