@@ -357,11 +357,12 @@ final class BestEdges {
         edge.asks("it only asks", Edge::rich, y -> y.rule(100) >= 0 ? 1 : 0, 1);
     }
 
-    /** Eight mayors of 40, who use 640 on day 1. */
-    private static int ruleOfEight(int tank) {
+    /** Eight mayors of 40, who use 640 on day 1, and have stooped so often. */
+    private static int ruleOfEight(int tank, int stooped) {
         NamedFountains x = Edge.jets(tank, 40, 40, 40, 40, 40, 40, 40, 40);
         for (int i = 0; i < 8; i++) {
             x.turn(i, Due.MAYOR);
+            x.set(i, 4, stooped);
         }
         return x.rule(2);
     }
@@ -369,9 +370,12 @@ final class BestEdges {
     private void ruleSteps() {
         // Of what the first day leaves, some find too little on the second; one turned off on the first day leaves 80
         // to them, and that is so with any DROUGHT above the TANK.
-        edge.within("949", ruleOfEight(949), 950);
-        edge.beyond("950: the next step", ruleOfEight(950), 1000);
-        edge.within("999", ruleOfEight(999), 1000);
-        edge.at("1000: no step is above it", ruleOfEight(1000), 0);
+        edge.within("949", ruleOfEight(949, 0), 950);
+        edge.beyond("950: the next step", ruleOfEight(950, 0), 1000);
+        edge.within("999", ruleOfEight(999, 0), 1000);
+        edge.at("1000: no step is above it", ruleOfEight(1000, 0), 0);
+        edge.within("949, each has stooped 9997 times", ruleOfEight(949, 9997), 950);
+        edge.at("949, each has stooped 9998 times", ruleOfEight(949, 9998), 950);
+        edge.beyond("949, STOOPED is held for each: all alike", ruleOfEight(949, 9999), 0);
     }
 }
